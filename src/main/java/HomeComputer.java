@@ -185,6 +185,7 @@ public final class HomeComputer {
     /** What the processor reaches by an access: memory and ports, and the time that accesses take. */
     private static final class Board {
         static final int LINES = 64;
+        static final int FETCH_TICKS = 4;
         private static final int MEMORY = 4096;
         private static final int FIRST_WRITABLE = 1024;
         private static final int BYTE_TICKS = 3;
@@ -224,8 +225,13 @@ public final class HomeComputer {
             }
         }
 
-        int read(int address, int ticks) {
-            pass(delay(isShared(address)) + ticks);
+        int fetchAt(int address) {
+            pass(delay(isShared(address)) + FETCH_TICKS);
+            return byteAt(address);
+        }
+
+        int read(int address) {
+            pass(delay(isShared(address)) + BYTE_TICKS);
             return byteAt(address);
         }
 
@@ -270,10 +276,8 @@ public final class HomeComputer {
 
         private int delay(boolean shared) {
             int line = now >> 6 & LINES - 1;
-            if (!shared || line < 16 || line > 47 || (now & 63) >= 32) {
-                return 0;
-            }
-            return Math.max(0, 6 - (now & 7));
+            boolean slows = shared && line >= 16 && line <= 47 && (now & 63) < 32;
+            return slows && (now & 7) < 6 ? 6 - (now & 7) : 0;
         }
     }
 
@@ -501,8 +505,6 @@ public final class HomeComputer {
 
     /** Fetches instructions and does them. */
     private static final class Processor {
-        private static final int FETCH_TICKS = 4;
-        private static final int BYTE_TICKS = 3;
         private static final int WANTED_TICKS = 32;
         private static final int HALT = 118;
         private static final int ROTATIONS = 203;
@@ -533,19 +535,20 @@ public final class HomeComputer {
                 return;
             }
             if (row[Registers.HALTED] == 1) {
-                board.read(row[Registers.PC], FETCH_TICKS);
+                board.fetchAt(row[Registers.PC]);
                 refresh();
                 return;
             }
             int b = fetchBehindPrefixes();
+            if (isPrefix(b)) {
+                return;
+            }
             if (hasM(b)) {
                 findM();
             }
             int y = b >> 3 & 7;
             int z = b & 7;
-            if (isPrefix(b)) {
-                return;
-            } else if (b == ROTATIONS) {
+            if (b == ROTATIONS) {
                 rotate();
             } else if (b == MORE) {
                 registers.base = Registers.H;
@@ -558,6 +561,12 @@ public final class HomeComputer {
                 setOperand(y, operand(z));
             } else if (b < 192) {
                 operate(y, operand(z));
+            } else if (z == 1) {
+                popOrGo(y);
+            } else if (z == 3) {
+                doMixed(y);
+            } else if (z == 5) {
+                pushOrCall(y);
             } else {
                 doLast(y, z);
             }
@@ -568,7 +577,7 @@ public final class HomeComputer {
             row[Registers.IFF1] = 0;
             row[Registers.IFF2] = 0;
             refresh();
-            board.pass(FETCH_TICKS);
+            board.pass(Board.FETCH_TICKS);
             push(row[Registers.PC]);
             row[Registers.PC] = row[Registers.MODE] == 2 ? readWord(row[Registers.I] << 8 | 255) : 56;
         }
@@ -579,7 +588,7 @@ public final class HomeComputer {
         }
 
         private int fetch() {
-            int b = board.read(row[Registers.PC], FETCH_TICKS);
+            int b = board.fetchAt(row[Registers.PC]);
             movePc(1);
             refresh();
             return b;
@@ -628,20 +637,21 @@ public final class HomeComputer {
         }
 
         private int nextByte() {
-            int v = board.read(row[Registers.PC], BYTE_TICKS);
+            int v = board.read(row[Registers.PC]);
             movePc(1);
             return v;
         }
 
         private int nextWord() {
-            int nn = readWord(row[Registers.PC]);
+            int low = board.read(row[Registers.PC]);
+            int high = board.read(row[Registers.PC] + 1);
             movePc(2);
-            return nn;
+            return high << 8 | low;
         }
 
         private int readWord(int address) {
-            int low = board.read(address, BYTE_TICKS);
-            return low | board.read(address + 1, BYTE_TICKS) << 8;
+            int low = board.read(address);
+            return low | board.read(address + 1) << 8;
         }
 
         private void writeWord(int address, int value) {
@@ -650,7 +660,7 @@ public final class HomeComputer {
         }
 
         private int operand(int k) {
-            return k == 6 ? board.read(placeOfM, BYTE_TICKS) : registers.single(k);
+            return k == 6 ? board.read(placeOfM) : registers.single(k);
         }
 
         private void setOperand(int k, int value) {
@@ -788,7 +798,7 @@ public final class HomeComputer {
                 return;
             }
             int address = p < 2 ? registers.pair(p) : nextWord();
-            row[Registers.A] = board.read(address, BYTE_TICKS);
+            row[Registers.A] = board.read(address);
         }
 
         private void count(int y, boolean down) {
@@ -863,24 +873,15 @@ public final class HomeComputer {
                         row[Registers.PC] = pop();
                     }
                     break;
-                case 1:
-                    popOrGo(y);
-                    break;
                 case 2:
                     if (condition(y)) {
                         row[Registers.PC] = nn;
                     }
                     break;
-                case 3:
-                    doMixed(y);
-                    break;
                 case 4:
                     if (condition(y)) {
                         call(nn);
                     }
-                    break;
-                case 5:
-                    pushOrCall(y);
                     break;
                 case 6:
                     operate(y, nextByte());
@@ -1080,17 +1081,16 @@ public final class HomeComputer {
         }
 
         private void turnTwelveBits(boolean left) {
-            findM();
-            int v = operand(6);
+            int v = board.read(registers.hl());
             int half = row[Registers.A] & 15;
-            setOperand(6, left ? v << 4 | half : half << 4 | v >> 4);
+            board.write(registers.hl(), left ? v << 4 | half : half << 4 | v >> 4);
             int a = row[Registers.A] & 240 | (left ? v >> 4 : v & 15);
             row[Registers.A] = a;
             setFlags(Arithmetic.C, Arithmetic.byWithParity(a));
         }
 
         private void moveByte(int y) {
-            int v = board.read(registers.hl(), BYTE_TICKS);
+            int v = board.read(registers.hl());
             board.write(registers.joined(Registers.D), v);
             int by = (y & 1) == 0 ? 1 : -1;
             registers.split(Registers.D, registers.joined(Registers.D) + by);
@@ -1102,7 +1102,7 @@ public final class HomeComputer {
         }
 
         private void lookAtByte(int y) {
-            int v = board.read(registers.hl(), BYTE_TICKS);
+            int v = board.read(registers.hl());
             int both = Arithmetic.minus(row[Registers.A], v, 0);
             int lessByOne = (both & Arithmetic.H) != 0 ? 1 : 0;
             int flags = advance((y & 1) == 0 ? 1 : -1, (both >> 8) - lessByOne);

@@ -20,6 +20,8 @@ final class Lab {
     static final int HALTED = 25;
     /** A place that is neither slowed nor kept from writing. */
     static final int HOME = 2048;
+    /** Some hundred bytes from here on are left 0 by the tests that wait. */
+    private static final int WAITING = 3700;
 
     final HomeComputer computer = new HomeComputer();
 
@@ -73,18 +75,14 @@ final class Lab {
         int pc = get(PC);
         int b = get(B);
         int r = get(R);
+        set(PC, WAITING);
         for (int k = 0; k < odd; k++) {
-            put(HOME + 2 * k, 6, 0);
+            put(WAITING + 2 * k, 6, 0);
+            computer.step(1);
+            put(WAITING + 2 * k, 0);
         }
-        set(PC, HOME);
-        if (odd > 0) {
-            computer.step(odd);
-        }
-        for (int k = 0; k < odd; k++) {
-            put(HOME + 2 * k, 0, 0);
-        }
-        set(PC, HOME);
         for (int nothings = (left - 7 * odd) / 4; nothings > 0; nothings -= 100) {
+            set(PC, WAITING);
             computer.step(Math.min(100, nothings));
         }
         Check.same("the tick to wait for", computer.look(1), tick);

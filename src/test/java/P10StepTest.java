@@ -123,7 +123,8 @@ final class P10StepTest {
     private static void order(String name, int start, int pc, int sp, String accesses, int... code) {
         for (int t = 0; t < 40; t++) {
             Lab lab = Lab.with().waitUntil(start + t);
-            lab.put(pc, code).set(Lab.PC, pc).set(Lab.SP, sp).set(Lab.X, 1600).setPair(Lab.H, 1800).setPair(Lab.D, 3000);
+            lab.put(pc, code).set(Lab.PC, pc).set(Lab.SP, sp).set(Lab.X, 1600);
+            lab.setPair(Lab.H, 1800).setPair(Lab.D, 3000);
             int tick = start + t;
             for (char access : accesses.toCharArray()) {
                 tick += "fbp".indexOf(access) >= 0 ? delay(tick) : 0;
