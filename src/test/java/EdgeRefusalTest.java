@@ -7,8 +7,8 @@ import java.util.List;
  * one object has, so the computers are made anew for each part of what is asked.
  */
 final class EdgeRefusalTest {
-    private static final int PARTS = 16;
-    private static final int BYTES_A_PART = 410;
+    private static final int PARTS = 17;
+    private static final int BYTES_A_PART = 400;
 
     public static void main(String[] args) {
         List<Scene> scenes = List.of(EdgeRefusalTest::fresh, EdgeRefusalTest::playing,
@@ -60,9 +60,7 @@ final class EdgeRefusalTest {
         Lab lab = P10ArithmeticTest.numbered(211, 254, 60, 24, 251);
         lab.put(0, 1, 2, 3, 4).put(1021, 5, 6, 7, 8, 9, 10).put(4092, 11, 12, 13, 14).set(Lab.I, 33).set(Lab.R, 44);
         lab.set(Lab.A, 22).set(Lab.IFF2, 1).set(Lab.MODE, 2);
-        for (int k = 0; k < 8; k++) {
-            lab.computer.key(k, k * 3 % 5, true);
-        }
+        everyOtherKey(lab, 0);
         lab.computer.step(70);
         for (int ticks : new int[] {10, 50, 31, 7, 400}) {
             lab.computer.pulse(ticks);
@@ -73,11 +71,19 @@ final class EdgeRefusalTest {
         return lab;
     }
 
+    /** Of two keys side by side one is down, so that a key too many or too few can be seen anywhere. */
+    private static void everyOtherKey(Lab lab, int first) {
+        for (int k = first; k < 40; k += 2) {
+            lab.computer.key(k / 5, k % 5, true);
+        }
+    }
+
     private static Lab stoppedHigh() {
         Lab lab = Lab.with(62, 9, 24, 252);
         for (int k = 0; k < 40; k++) {
             lab.computer.pulse(5 + k);
         }
+        everyOtherKey(lab, 1);
         lab.computer.tape(1);
         lab.step();
         lab.computer.tape(0);

@@ -1,3 +1,5 @@
+import java.util.Arrays;
+
 /** The edges of time: accesses, slowed ones, lines, frames, and what 512 calls can count. */
 final class EdgeTimeTest {
     public static void main(String[] args) {
@@ -23,15 +25,15 @@ final class EdgeTimeTest {
             {7, 16, 0}, {7, 32, 0}, {7, 40, 0}, {4, 118}, {10, 195, 0, 0}, {10, 202, 0, 0}, {16, 205, 0, 0},
             {10, 204, 0, 0}, {16, 196, 0, 0}, {10, 201}, {4, 200}, {10, 192}, {10, 199}, {10, 197}, {10, 193},
             {16, 227}, {4, 217}, {4, 8}, {4, 235}, {4, 233}, {4, 249}, {11, 211, 0}, {11, 219, 1}, {8, 203, 0},
-            {14, 203, 6}, {11, 203, 70}, {14, 203, 134}, {12, 237, 64}, {12, 237, 65}, {8, 237, 66}, {20, 237, 67, 0, 0},
-            {8, 237, 68}, {14, 237, 69}, {8, 237, 70}, {8, 237, 71}, {14, 237, 103}, {14, 237, 160}, {11, 237, 161},
+            {14, 203, 6}, {11, 203, 70}, {14, 203, 134}, {12, 237, 64}, {12, 237, 65}, {8, 237, 66},
+            {20, 237, 67, 0, 0}, {8, 237, 68}, {14, 237, 69}, {8, 237, 70}, {8, 237, 71}, {14, 237, 103}, {14, 237, 160}, {11, 237, 161},
             {14, 237, 176}, {11, 237, 177}, {8, 237, 0}, {8, 237, 119}, {8, 237, 128}, {8, 237, 162}, {8, 237, 255},
             {8, 221, 0}, {14, 221, 126, 0}, {14, 221, 112, 0}, {17, 221, 54, 0, 0}, {17, 221, 52, 0},
             {20, 221, 203, 0, 0}, {20, 221, 203, 0, 6}, {17, 221, 203, 0, 64}, {14, 221, 134, 0}, {14, 221, 33, 0, 0},
             {20, 221, 34, 0, 0}, {8, 221, 9}, {14, 221, 229}, {20, 221, 227}, {8, 221, 233}, {12, 221, 237, 68},
             {16, 221, 221, 221, 0}, {16, 221, 221, 221, 221}, {13, 50, 0, 0}, {16, 34, 0, 0}, {7, 2}, {7, 10}};
         for (int[] one : cases) {
-            int[] code = java.util.Arrays.copyOfRange(one, 1, one.length);
+            int[] code = Arrays.copyOfRange(one, 1, one.length);
             Lab lab = Lab.with(code).setPair(Lab.H, 3000).setPair(Lab.D, 3100).setPair(Lab.B, 3201);
             StringBuilder name = new StringBuilder("ticks of");
             for (int b : code) {
@@ -41,18 +43,16 @@ final class EdgeTimeTest {
         }
     }
 
+    /** The ticks of fetching from slowed memory at a tick of a frame; in later frames HALT does the fetching. */
     private static int fetchAt(int frames, int tick) {
+        if (frames == 0) {
+            return Lab.with().waitUntil(tick).set(Lab.PC, 1500).step();
+        }
         Lab lab = Lab.with(118);
         for (int k = 0; k < frames; k++) {
             lab.computer.frame();
         }
-        lab = frames == 0 ? Lab.with() : lab;
-        lab.set(Lab.PC, Lab.HOME + 1);
-        if (frames > 0) {
-            return inHalt(lab, tick);
-        }
-        lab.waitUntil(tick);
-        return lab.set(Lab.PC, 1500).step();
+        return inHalt(lab, tick);
     }
 
     /** In HALT a tick that is a multiple of 4 can be waited for. */
@@ -148,7 +148,7 @@ final class EdgeTimeTest {
         Check.same("four slowed accesses", lab.step(), 10 + 3 + slowedFrom(1034) + 3 + slowedFrom(1041) + 3 + 5);
     }
 
-    /** "R as by a fetch, 4 ticks": no byte is read, so nothing slows them. */
+    /** "R as by a fetch, 4 ticks": it is taken in line 0, where nothing is slowed. */
     private static void theInterruptsOwnTicks() {
         Lab lab = Lab.with().set(Lab.PC, 1500).set(Lab.SP, 1500).set(Lab.IFF1, 1);
         Check.same("the interrupt with all in slowed memory", lab.step(), 10);

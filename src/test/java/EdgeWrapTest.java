@@ -1,3 +1,5 @@
+import java.util.Arrays;
+
 /** "Everything wraps.": the last value and the first one of everything that grows or falls. */
 final class EdgeWrapTest {
     public static void main(String[] args) {
@@ -308,7 +310,7 @@ final class EdgeWrapTest {
         int[][] fetches = {{1, 62, 5}, {2, 203, 7}, {2, 237, 68}, {2, 221, 35}, {2, 221, 203, 0, 70},
             {3, 221, 237, 68}, {4, 221, 221, 221, 35}, {4, 253, 253, 253, 253}, {2, 253, 54, 0, 0}};
         for (int[] one : fetches) {
-            int[] code = java.util.Arrays.copyOfRange(one, 1, one.length);
+            int[] code = Arrays.copyOfRange(one, 1, one.length);
             for (int r : new int[] {0, 124, 125, 126, 127, 252, 255}) {
                 Lab lab = Lab.with(code).set(Lab.R, r).set(Lab.X, 3000).set(Lab.Y, 3000);
                 lab.step();

@@ -5,7 +5,8 @@ final class ModelTest {
     private static final int[] EDGE_BYTES = {0, 1, 2, 7, 8, 9, 10, 15, 16, 40, 127, 128, 129, 153, 154, 160, 254, 255};
     private static final int[] EDGE_WORDS = {0, 1, 2, 127, 128, 255, 256, 1022, 1023, 1024, 1025, 2046, 2047, 2048,
         2049, 4094, 4095, 4096, 4097, 5118, 5119, 5120, 6143, 6144, 32767, 32768, 61439, 61440, 65534, 65535};
-    private static final int[][] TABLES = {{}, {203}, {237}, {221}, {253}, {221, 203}, {253, 203}};
+    private static final int[][] TABLES = {{}, {203}, {237}, {221}, {253}, {221, 203}, {253, 203}, {221, 253},
+        {253, 253, 221}, {221, 221, 253}};
     /** What programs like to do: ports, prefixes, interrupts, blocks, jumps. */
     private static final int[] LIKED = {211, 219, 254, 237, 120, 121, 221, 253, 203, 251, 118, 176, 184, 16, 24, 60, 0,
         86, 94, 225, 229, 227, 52, 53, 201, 77, 95};
@@ -65,8 +66,14 @@ final class ModelTest {
 
     /** Behind a prefix and 203 the displacement stands before the opcode; elsewhere it is the first byte behind. */
     private static int[] bytesOf(int[] table, int opcode, int d, int nn) {
-        if (table.length == 2) {
+        if (table.length == 3) {
+            return new int[] {table[0], table[1], table[2], opcode, d, nn & 255, nn >> 8};
+        }
+        if (table.length == 2 && table[1] == 203) {
             return new int[] {table[0], table[1], d, opcode};
+        }
+        if (table.length == 2) {
+            return new int[] {table[0], table[1], opcode, d, nn & 255, nn >> 8};
         }
         if (table.length == 1 && table[0] != 237) {
             return new int[] {table[0], opcode, d, nn & 255, nn >> 8};
